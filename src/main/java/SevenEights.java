@@ -295,18 +295,18 @@ public final class SevenEights {
     if (who == null) return BAD;
     int products = 0;
     for (int i = 0; i < school.lesson.count; i++) {
-      int pair = school.lesson.about[i];
+      int about = school.lesson.about[i];
       switch (school.lesson.sorts[i]) {
         case ASK:
-          answer.find(who, pair, school.lesson.seconds[i], school.laws);
-          who.keepAnswer(answer, pair, school.day);
+          answer.find(who, about, school.lesson.seconds[i], school.laws);
+          who.keepAnswer(answer, about, school.day);
           if (answer.isProduct()) products++;
           break;
         case TELL:
-          who.hear(pair);
+          who.hear(about);
           break;
         default:
-          school.rest(school.lesson.about[i]);
+          school.rest(about);
       }
     }
     return products;

@@ -162,6 +162,8 @@ public final class PromisesTest {
     fault("rest 1; ;", 8);
     fault("ask 1 8 in 3;", 4);
     fault("ask 2 10 in 3;", 6);
+    fault("ask 10 2 in 3;", 4);
+    fault("bsk 2 9 in 3;", 0);
     fault("ask 78 in 3;", 4);
     fault("ask 7 in 3;", 6);
     fault("ask 7 8 9 in 3;", 8);
@@ -241,6 +243,13 @@ public final class PromisesTest {
       {10, 3, 5, 15, 70}, {14, 3, 9, 27, 47}, {21, 5, 5, 25, 70}, {25, 5, 9, 45, 70}, {34, 8, 9, 72, 24}, {35, 9, 9, 81, 60}};
     for (int[] pair : pairs) {
       for (int what = 0; what < 4; what++) due("pairOf " + pair[0] + " " + what, x.pairOf(pair[0], what), pair[what + 1]);
+    }
+    for (int a = 2; a <= 9; a++) {
+      for (int b = a; b <= 9; b++) {
+        due("a", x.pairOf(x.pair(a, b), 0), a);
+        due("b", x.pairOf(x.pair(a, b), 1), b);
+        due("the product", x.pairOf(x.pair(a, b), 2), a * b);
+      }
     }
     due("what 4", x.pairOf(0, 4), BAD);
     due("what -1", x.pairOf(0, -1), BAD);
@@ -412,6 +421,10 @@ public final class PromisesTest {
     x.firm(0, 1, 100);
     dueWould(x, 0, 9, 6, 2, 9, 1);
     dueWould(x, 8, 3, 9, 1, 3, 1);
+    x.firm(0, 1, 0);
+    x.firm(0, 0, 100);
+    dueWould(x, 1, 2, 4, 2, 2, 0);
+    dueWould(x, 1, 3, 6, 1, 3, 0);
     wouldByKinds();
     for (int what : new int[] {-1, 4}) due("what", x.would(0, 0, 1, what), BAD);
     for (int t : new int[] {0, 10, LOW, HIGH}) due("t", x.would(0, 0, t, 0), BAD);
@@ -618,6 +631,11 @@ public final class PromisesTest {
     due("2", x.odds(9, 0), 2);
     due("by 3", x.odds(9, 1), 3);
     allFirm(x, 0, 100);
+    x.firm(0, 1, 0);
+    x.firm(0, 2, 0);
+    due("17", x.odds(1, 0), 17);
+    due("by 18", x.odds(1, 1), 18);
+    allFirm(x, 0, 100);
     due("1", x.odds(1, 0), 1);
     due("by 1", x.odds(1, 1), 1);
     x.learner(PARROT, 0);
@@ -640,11 +658,15 @@ public final class PromisesTest {
     due("the same twice: and 9", x.best(0, 2, 0, 0), 3560);
     due("by it twice", x.best(0, 2, 0, 1), 20);
     x.firm(0, 30, 10);
-    due("30 brings 16 and then 13", x.best(0, 2, 0, 0), 3450 + 16 + 13);
+    due("30 brings 16, then 13", x.best(0, 2, 0, 0), 3450 + 16 + 13);
     due("by 30 twice", x.best(0, 2, 0, 1), 30);
     x.firm(0, 20, 20);
     due("14 by 20 is more", x.best(0, 2, 0, 0), 3430 + 16 + 14);
     due("the lesser goes first", x.best(0, 2, 0, 1), 20);
+    x.firm(0, 30, 100);
+    x.firm(0, 21, 20);
+    due("two side by side", x.best(0, 2, 0, 0), 3440 + 14 + 14);
+    due("the lesser of them", x.best(0, 2, 0, 1), 20);
     // behind a night: 99 becomes 90 as 100 does; with RIGHTS less is lost
     allFirm(x, 0, 100);
     x.firm(0, 4, 99);
@@ -814,11 +836,30 @@ public final class PromisesTest {
     for (int i = 0; i < 3; i++) {
       for (int what = 0; what < 3; what++) due("row " + i + " " + what, x.row(i, what), want[i][what]);
     }
+    rowsAsIfGiven();
     due("3", x.row(3, 0), -99);
     due("-1", x.row(-1, 0), -99);
     due("high", x.row(HIGH, 0), -99);
     due("what 3", x.row(0, 3), -99);
     due("what -1", x.row(0, -1), -99);
+  }
+
+  private static void rowsAsIfGiven() {
+    SevenEights x = with(PARROT, 0);
+    allFirm(x, 0, 0);
+    x.firm(0, 31, 40);
+    // 40, asked: 56; told: 64, 71; asked: 79; nine nights with RIGHTS 1: 54; asked on another DAY: 66; five
+    // nights with RIGHTS 2: 57
+    read(x, "ask 7 8 in 9; tell 7 8; tell 7 8; ask 7 8 in 9; rest 9; ask 7 8 in 9; rest 5; ask 7 8 in 3; ask 7 7 in 4;");
+    due("five", x.prove(0), 5);
+    int[][] want = {{31, 56, 5}, {31, 56, 2}, {31, 56, 4}, {31, 56, 3}, {30, 56, 4}};
+    for (int i = 0; i < 5; i++) {
+      for (int what = 0; what < 3; what++) due("row " + i + " " + what, x.row(i, what), want[i][what]);
+    }
+    read(x, "ask 9 9 in 1;".repeat(12));
+    due("twelve", x.prove(0), 12);
+    due("the last", x.row(11, 0), 35);
+    due("nothing is said", x.row(11, 1), -9);
   }
 
   private static void alterRow() {
@@ -827,6 +868,7 @@ public final class PromisesTest {
     due("was then", x.alterRow(1, 1, -9), LOW);
     due("is", x.row(1, 1), -9);
     due("others are as they were", x.row(1, 0), 34);
+    due("and", x.row(0, 1), 49);
     due("3", x.alterRow(3, 0, 1), -99);
     due("-1", x.alterRow(-1, 0, 1), -99);
     due("what 3", x.alterRow(0, 3, 1), -99);
@@ -882,6 +924,9 @@ public final class PromisesTest {
     due("the last one", x.firms(0, 8, 0, 35, 1), 1);
     due("6", x.head(0, 35, 0), 6);
     due("none of them", x.firms(0, 40, 0, 35, 0), 0);
+    x.put(0, 0, 33);
+    due("the first one", x.firms(0, 0, 0, 1, 1), 1);
+    due("33", x.head(0, 1, 0), 33);
     for (int i : new int[] {-1, 40, LOW, HIGH}) due("outside", x.firms(0, i, 0, 0, 1), -12);
     due("none from outside", x.firms(0, 41, 0, 0, 0), -12);
     due("beyond", x.firms(0, 36, 0, 0, 5), -12);
@@ -903,8 +948,10 @@ public final class PromisesTest {
       due("made", x.sheet(sort, sort, 40), 1);
       due("0", x.number(sort, sort, 39), 0);
       x.put(sort, 39, 5);
+      x.put(sort, 0, 5);
       due("anew", x.sheet(sort, sort, 40), 1);
       due("0 again", x.number(sort, sort, 39), 0);
+      due("0 again", x.number(sort, sort, 0), 0);
       due("of none", x.sheet(sort, sort, 0), 1);
       due("none", x.number(sort, sort, 0), -12);
       due("missing, whatever n", x.sheet(sort, -1, HIGH), 1);
@@ -925,6 +972,9 @@ public final class PromisesTest {
   private static void put() {
     SevenEights x = new SevenEights();
     due("missing", x.put(0, 0, 1), -11);
+    x.sheet(0, 2, 1);
+    due("the first", x.put(0, 0, 6), 1);
+    due("6", x.number(0, 2, 0), 6);
     for (int sort = 0; sort < 4; sort++) x.sheet(sort, sort, 2);
     int[][] want = {{-128, 56, 0, -1}, {128, 4664, 0, -1}, {128, 70200, LOW, HIGH}, {128, 70200, LOW, HIGH}};
     int[] values = {128, 70200, LOW, HIGH};
@@ -964,6 +1014,14 @@ public final class PromisesTest {
     due("nothing, whatever n", x.shelf(3, 2, LOW), 1);
     due("is nothing", x.taken(3, 11), -11);
     x.shelf(3, 0, 0);
+    due("nothing behind a LEARNER", x.shelf(3, 2, 0), 1);
+    due("is nothing", x.taken(3, 0), -11);
+    x.shelf(3, 1, 2);
+    due("a LEARNER behind a row", x.shelf(3, 0, 0), 1);
+    due("is there", x.taken(3, 0), 0);
+    x.shelf(1, 1, 2);
+    x.sheet(2, 0, 9);
+    due("a row stays when its SHEET becomes another", x.taken(1, 11), 7);
     for (int n : new int[] {-1, 1, LOW}) due("learner", x.shelf(3, 0, n), BAD);
     for (int n : new int[] {-1, 4, HIGH}) due("sheet", x.shelf(3, 1, n), BAD);
     for (int what : new int[] {-1, 3}) due("what", x.shelf(3, what, 0), BAD);
@@ -1006,8 +1064,8 @@ public final class PromisesTest {
     due("nor acts", x.act(0, 0, 5), 0);
   }
 
+  /** Of number 1 with A 4: a - n is 3. */
   private static void dueAct(int kind, int act, int x, int want, int... bodies) {
-    // number 1, and A 4: a - n is 3
     SevenEights on = with(LEARNER, 0);
     on.learner(kind, 4);
     on.shelf(3, 0, 1);
@@ -1044,6 +1102,12 @@ public final class PromisesTest {
     dueAct(GUESSER, 1, 7, 16, 11, 10);
     dueAct(GUESSER, 2, 7, 7, 61, 12, 10);
     dueAct(GUESSER, 3, 7, 40, 60, 13, 11, 10);
+    dueAct(SURE, 2, 6, 3, 50, 12);
+    SevenEights parrot = with(LEARNER, 0);
+    parrot.learner(PARROT, 2);
+    parrot.shelf(0, 0, 1);
+    // learns(7) is 48, ^ 2 is 50; shares(1) is 1
+    due("a parrot tells, and shares", parrot.act(0, 3, 7), 51);
     actPartedBy0();
     actOfNothing();
   }
