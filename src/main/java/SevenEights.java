@@ -696,11 +696,16 @@ public final class SevenEights {
     }
 
     int takes(int pair, int t) {
-      return 1 + (100 - feeling(pair, t)) / 15;
+      return takesBy(feeling(pair, t));
     }
 
     boolean isAtOnce(int pair, int t, int floor) {
-      return feeling(pair, t) >= floor && takes(pair, t) <= t;
+      int feeling = feeling(pair, t);
+      return feeling >= floor && takesBy(feeling) <= t;
+    }
+
+    private static int takesBy(int feeling) {
+      return 1 + (100 - feeling) / 15;
     }
 
     /** STEP, or NO for those who go no WAY. */
