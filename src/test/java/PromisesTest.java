@@ -1,88 +1,52 @@
 /** Promise by promise: ordinary inputs, the edges that the document names, and wrong inputs. */
-public final class PromisesTest {
-  private static final int BAD = -1, FULL = -2, NONE = -3;
-  private static final int LEARNER = 0, COUNTER = 1, PARROT = 2, AFRAID = 3, SURE = 4, GUESSER = 5;
-  private static final int LOW = Integer.MIN_VALUE, HIGH = Integer.MAX_VALUE;
-  private static final long ALL = (1L << 36) - 1;
-
-  private static int wrong = 0;
-  private static int promise = 0;
-
-  private static void due(String call, long got, long want) {
-    if (got == want) return;
-    wrong++;
-    System.out.println("promise " + promise + ": " + call + " answered " + got + ", due is " + want);
-  }
-
-  private static SevenEights with(int kind, int a) {
-    SevenEights x = new SevenEights();
-    x.learner(kind, a);
-    return x;
-  }
-
-  private static int feedAll(SevenEights x, String text) {
-    int has = 0;
-    for (int i = 0; i < text.length(); i++) has = x.feed(text.charAt(i), 1);
-    return has;
-  }
-
-  private static int read(SevenEights x, String text) {
-    feedAll(x, text);
-    return x.lesson();
-  }
-
-  private static void allFirm(SevenEights x, int learner, int v) {
-    for (int pair = 0; pair < 36; pair++) x.firm(learner, pair, v);
-  }
-
+public final class PromisesTest extends TestBase {
   public static void main(String[] args) {
-    promise = 1; aNewObject();
-    promise = 2; feed();
-    promise = 3; lesson();
-    promise = 4; learner();
-    promise = 5; learnerOf();
-    promise = 6; pair();
-    promise = 7; pairOf();
-    promise = 8; tied();
-    promise = 9; head();
-    promise = 10; firm();
-    promise = 11; rights();
-    promise = 12; set();
-    promise = 13; day();
-    promise = 14; feel();
-    promise = 15; would();
-    promise = 16; ask();
-    promise = 17; tell();
-    promise = 18; nights();
-    promise = 19; card();
-    promise = 20; known();
-    promise = 21; friday();
-    promise = 22; odds();
-    promise = 23; best();
-    promise = 24; till();
-    promise = 25; hardest();
-    promise = 26; draws();
-    promise = 27; give();
-    promise = 28; item();
-    promise = 29; seed();
-    promise = 30; draw();
-    promise = 31; prove();
-    promise = 32; row();
-    promise = 33; alterRow();
-    promise = 34; judge();
-    promise = 35; firms();
-    promise = 36; sheet();
-    promise = 37; put();
-    promise = 38; number();
-    promise = 39; shelf();
-    promise = 40; taken();
-    promise = 41; act();
-    promise = 42; trace();
-    promise = 43; many();
-    promise = 44; keep();
-    promise = 45; again();
-    System.out.println(wrong == 0 ? "all promises hold" : wrong + " answers are not as due");
-    if (wrong != 0) System.exit(1);
+    where = "promise 1"; aNewObject();
+    where = "promise 2"; feed();
+    where = "promise 3"; lesson();
+    where = "promise 4"; learner();
+    where = "promise 5"; learnerOf();
+    where = "promise 6"; pair();
+    where = "promise 7"; pairOf();
+    where = "promise 8"; tied();
+    where = "promise 9"; head();
+    where = "promise 10"; firm();
+    where = "promise 11"; rights();
+    where = "promise 12"; set();
+    where = "promise 13"; day();
+    where = "promise 14"; feel();
+    where = "promise 15"; would();
+    where = "promise 16"; ask();
+    where = "promise 17"; tell();
+    where = "promise 18"; nights();
+    where = "promise 19"; card();
+    where = "promise 20"; known();
+    where = "promise 21"; friday();
+    where = "promise 22"; odds();
+    where = "promise 23"; best();
+    where = "promise 24"; till();
+    where = "promise 25"; hardest();
+    where = "promise 26"; draws();
+    where = "promise 27"; give();
+    where = "promise 28"; item();
+    where = "promise 29"; seed();
+    where = "promise 30"; draw();
+    where = "promise 31"; prove();
+    where = "promise 32"; row();
+    where = "promise 33"; alterRow();
+    where = "promise 34"; judge();
+    where = "promise 35"; firms();
+    where = "promise 36"; sheet();
+    where = "promise 37"; put();
+    where = "promise 38"; number();
+    where = "promise 39"; shelf();
+    where = "promise 40"; taken();
+    where = "promise 41"; act();
+    where = "promise 42"; trace();
+    where = "promise 43"; many();
+    where = "promise 44"; keep();
+    where = "promise 45"; again();
+    end("all promises hold");
   }
 
   private static void aNewObject() {
@@ -257,12 +221,6 @@ public final class PromisesTest {
     due("-1", x.pairOf(-1, 0), BAD);
   }
 
-  private static long setOf(int... pairs) {
-    long set = 0;
-    for (int pair : pairs) set |= 1L << pair;
-    return set;
-  }
-
   private static void tied() {
     SevenEights x = new SevenEights();
     due("2 2", x.tied(0), setOf(1));
@@ -375,11 +333,6 @@ public final class PromisesTest {
     due("learner -1", x.feel(-1, 0, 1), BAD);
   }
 
-  private static void dueWould(SevenEights x, int pair, int t, int said, int how, int seconds, int by) {
-    int[] want = {said, how, seconds, by};
-    for (int what = 0; what < 4; what++) due("would of " + pair + " in " + t + ", " + what, x.would(0, pair, t, what), want[what]);
-  }
-
   private static void would() {
     SevenEights x = with(LEARNER, 0);
     allFirm(x, 0, 0);
@@ -461,12 +414,6 @@ public final class PromisesTest {
     of[AFRAID].firm(0, 30, 50);
     dueWould(of[AFRAID], 31, 2, 49, 2, 2, 30);
     dueWould(of[AFRAID], 30, 4, 49, 0, 4, -9);
-  }
-
-  private static void dueHead(SevenEights x, int pair, int firm, int rights, int latest) {
-    due("FIRM of " + pair, x.head(0, pair, 0), firm);
-    due("RIGHTS of " + pair, x.head(0, pair, 1), rights);
-    due("LATEST of " + pair, x.head(0, pair, 2), latest);
   }
 
   private static void ask() {
