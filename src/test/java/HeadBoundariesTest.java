@@ -747,6 +747,13 @@ public final class HeadBoundariesTest extends TestBase {
     x.firm(0, 35, 98);
     dueBest(x, 1, 0, 3599, 35);
     dueBest(x, 2, 0, 3600, 35);
+    // nothing to gain any more, for two and for one
+    x.firm(0, 35, 100);
+    dueBest(x, 2, 0, 3600, 0);
+    x.firm(0, 35, 99);
+    dueBest(x, 1, 0, 3600, 35);
+    x.firm(0, 35, 100);
+    dueBest(x, 1, 0, 3600, 0);
   }
 
   @Sentence(value = "the first of them, of several the least with which it can be", promises = {23})
