@@ -25,6 +25,9 @@ public final class LanguageTest {
     int trace(int) int many(int) int keep() int again()""";
   private static final String FORBIDDEN =
     "\\b(throw|throws|try|catch|synchronized|assert|volatile|native|import|package|protected|var|System\\.(?!arraycopy))\\b|->|::|\\bstatic\\s*\\{";
+  private static final Pattern LIBRARY = Pattern.compile("\\b(Math|Integer|Long|Short|Byte|Character|Boolean|System|Arrays|Runtime|Thread)\\.\\w+");
+  // What the class uses of rule 4; another function of that rule may be added here with its use.
+  private static final Set<String> LIBRARY_USED = Set.of("Math.min", "Math.max", "Long.bitCount", "System.arraycopy");
   private static int wrong = 0;
 
   private static void must(boolean holds, String what) {
@@ -91,6 +94,8 @@ public final class LanguageTest {
     String code = source.replaceAll("(?s)/\\*.*?\\*/", "").replaceAll("//[^\n]*", "").replaceAll("\"[^\"]*\"", "\"\"");
     Matcher words = Pattern.compile(FORBIDDEN).matcher(code);
     while (words.find()) must(false, "the source has '" + words.group() + "'");
+    Matcher library = LIBRARY.matcher(code);
+    while (library.find()) must(LIBRARY_USED.contains(library.group()), "the source has '" + library.group() + "'");
     int length = 0;
     for (String line : code.split("\n")) {
       length = line.matches(" {2,4}[a-z].*\\) \\{") ? 0 : length + 1;
